@@ -78,6 +78,11 @@ public final class TextsTest {
         fault(due, "people true 0 0;", 0, 1);
         fault(due, "persontrue 0 0;", 0, 1);
         fault(due, "Person true 0 0;", 0, 1);
+        fault(due, "xerson true 0 0;", 0, 1);
+        fault(due, "persona true 0 0;", 0, 1);
+        fault(due, "personz true 0 0;", 0, 1);
+        fault(due, "person` true 0 0;", 6, 1);
+        fault(due, "person{ true 0 0;", 6, 1);
         fault(due, " ;", 1, 1);
         fault(due, "12", 0, 1);
         fault(due, "person ", 7, 1);
@@ -93,6 +98,8 @@ public final class TextsTest {
         fault(due, "person true 0000 0;", 12, 1);
         fault(due, "person true x 0;", 12, 1);
         fault(due, "person true 0 10;", 14, 2);
+        fault(due, "person true 0 9/;", 15, 1);
+        fault(due, "person true 0 9:;", 15, 1);
         fault(due, "person true 0 0001;", 14, 1);
         fault(due, "person true 0 ;", 14, 1);
         fault(due, "person true 0 0", 15, 1);
