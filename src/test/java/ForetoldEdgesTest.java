@@ -2,6 +2,10 @@
 public final class ForetoldEdgesTest {
     private static final int MIN = Integer.MIN_VALUE, MAX = Integer.MAX_VALUE;
     private static final String CROSS = "cross 0 0";
+    /** No letter agrees; were 0 (or 1) one who does just as the letter says, only letters with him would. */
+    private static final String IN_IT = "true 2 0, cross 3 0, cross 3 0, crowd 0 2";
+    /** No letter agrees; were 0 (or 1, or 2) one who does just as the letter says, only letters without him would. */
+    private static final String OUT_OF_IT = "cross 3 0, cross 3 0, cross 3 0, crowd 0 3";
     private static final Edges e = new Edges("ForetoldEdgesTest");
 
     public static void main(String[] args) {
@@ -20,6 +24,7 @@ public final class ForetoldEdgesTest {
         lost();
         readBy();
         nothingChanges();
+        afterLarger();
         image();
         restore();
         e.end();
@@ -78,6 +83,8 @@ public final class ForetoldEdgesTest {
         e.is("each of a ring", Due.with("true 1 0, true 2 0, cross 0 0").culprits(0), 7);
         e.is("everybody, as some LETTER AGREES anyway", Due.with(Pasts.SIX).culprits(0), 63);
         e.is("one man", Due.with(CROSS).culprits(0), 1);
+        e.is("some who would have to be in it", Due.with(IN_IT).agreeing(-1) + " " + Due.with(IN_IT).culprits(0), "0 15");
+        e.is("some who would have to be out of it", Due.with(OUT_OF_IT).agreeing(-1) + " " + Due.with(OUT_OF_IT).culprits(0), "0 15");
         e.is("the last of six", Due.with("true 0 0, true 0 0, true 0 0, true 0 0, true 0 0, cross 5 0").culprits(0), 32);
         e.sentence("17 culprits: BAD");
         e.refusedOutside(Pasts::busy, 0, 1, "culprits(what)", EvePost::culprits, Due.BAD);
@@ -94,6 +101,9 @@ public final class ForetoldEdgesTest {
         e.sentence("17 culprits: STOPPERS: .. or one who does not whatever the LETTER, would have none AGREE");
         EvePost off = Due.with("true 3 0, crowd 0 2, moody 3 0, cross 1 0");
         e.is("the third, if he does not", off.agreeing(-1) + " " + off.culprits(1), "1 4");
+        e.sentence("17 culprits: STOPPERS: one of the two ways is enough, though by the other some LETTER AGREES");
+        e.is("two who do not", Due.with(IN_IT).culprits(1), 3);
+        e.is("three who do", Due.with(OUT_OF_IT).culprits(1), 7);
         e.sentence("17 culprits: STOPPERS: nobody; all; one man never is");
         e.is("nobody", Due.with(Pasts.SIX).culprits(1), 0);
         e.is("all", Due.with("cross 0 0, cross 1 0").culprits(1), 3);
@@ -119,6 +129,12 @@ public final class ForetoldEdgesTest {
             for (int k = 0; k < n; k++) {
                 e.is("chains(" + n + ", " + k + ")", y.chains(n, k), k < n - 1 ? 1 : 0);
             }
+        }
+        e.sentence("18 chains: just one row of LETTERS");
+        EvePost sure = Due.with("cross 5 0, true 5 0");
+        for (int n = 1; n <= 5; n++) {
+            e.is("how many", sure.chains(n, -1), 1);
+            e.is("its first, its last", sure.chains(n, 0) + " " + sure.chains(n, n - 1), "1 1");
         }
         e.sentence("18 chains: NONE: none");
         for (int n = 1; n <= 5; n++) {
@@ -420,6 +436,39 @@ public final class ForetoldEdgesTest {
         e.refused(Pasts::busy, "done(3)", x -> x.done(3), 3);
     }
 
+    /** Every letter of the town before agreed; what is foretold of the smaller one is as if it were the first. */
+    private static void afterLarger() {
+        e.sentence("A TOWN that is read stands in place of the one before: no LETTER of it is left");
+        String[] towns = {"true 0 0", CROSS, "true 1 0, true 0 0", "true 1 0, cross 0 0, moody 2 0", IN_IT, "moody 0 0, lot 0 9"};
+        for (String town : towns) {
+            EvePost x = Due.with(Pasts.SIX);
+            Due.town(x, Due.text(town));
+            e.is(town, foretold(x), foretold(Due.with(town)));
+            x.image(0);
+            Due.town(x, Due.text(Pasts.SIX));
+            x.restore(0);
+            e.is(town + ", by an image", foretold(x), foretold(Due.with(town)));
+        }
+    }
+
+    private static String foretold(EvePost x) {
+        StringBuilder all = new StringBuilder();
+        int last = (1 << x.count(1)) - 1;
+        for (int i = -1; i <= last + 1; i++) {
+            all.append(" a ").append(x.agreeing(i));
+        }
+        all.append(" f ").append(x.fullest()).append(" c ").append(x.culprits(0)).append(' ').append(x.culprits(1));
+        for (int n = 1; n <= 5; n++) {
+            all.append(" n ").append(x.chains(n, -1)).append(' ').append(x.chains(n, 0)).append(' ').append(x.chains(n, n - 1));
+        }
+        all.append(" l ").append(x.likeliest());
+        for (int set = 0; set <= last; set++) {
+            all.append(" s ").append(x.lost(set, 0)).append(' ').append(x.lost(set, 1));
+            all.append(' ').append(x.readBy(set, 0)).append(' ').append(x.readBy(set, 1));
+        }
+        return all.toString();
+    }
+
     private static void image() {
         e.sentence("24 image: An IMAGE (0, 1) is kept of the TOWN: 1");
         EvePost x = Pasts.busy();
@@ -446,11 +495,11 @@ public final class ForetoldEdgesTest {
         e.sentence("25 restore: The TOWN is as an IMAGE kept it: 1");
         EvePost x = Pasts.busy();
         e.is("restore(0)", x.restore(0), 1);
-        e.is("people, day, who had done it; rows, tape stay", Due.counts(x), "4 2 1 1 0 16");
-        e.is("the first", x.kind(0) + " " + x.person(0, 0) + " " + x.person(0, 1) + " " + x.person(0, 2), "2 5 1 1");
-        e.is("the second", x.kind(1) + " " + x.person(1, 0) + " " + x.person(1, 1) + " " + x.person(1, 2), "5 0 2 0");
+        e.is("people, day, who had done it; rows, tape stay", Due.counts(x), "4 2 1 3 0 16");
+        e.is("the first", x.kind(0) + " " + x.person(0, 0) + " " + x.person(0, 1) + " " + x.person(0, 2), "5 1 2 1");
+        e.is("the second", x.kind(1) + " " + x.person(1, 0) + " " + x.person(1, 1) + " " + x.person(1, 2), "2 5 1 1");
         e.is("there is no third", x.kind(2) + " " + x.done(4), Due.BAD + " " + Due.BAD);
-        e.is("what they do", x.done(0) + " " + x.done(1), "3 1");
+        e.is("what they do", x.done(0) + " " + x.done(1) + " " + x.done(2), "2 2 3");
         e.is("fault(), status() stay", x.fault() + " " + x.status(), "2 3");
         e.is("the trace stays", Due.traceOf(x), "14 13 10");
         e.sentence("25 restore: (no ACT can be undone then)");
@@ -461,7 +510,7 @@ public final class ForetoldEdgesTest {
         x.lots(0, 1);
         x.lots(1, 1);
         e.is("restore(0)", x.restore(0), 1);
-        e.is("counts", Due.counts(x), "4 2 1 1 0 16");
+        e.is("counts", Due.counts(x), "4 2 1 3 0 16");
         e.sentence("25 restore: BAD");
         e.refusedOutside(Pasts::busy, 0, 1, "restore(k)", EvePost::restore, Due.BAD);
         e.sentence("25 restore: STATE: none was kept");

@@ -32,15 +32,15 @@ final class Pasts {
     }
 
     /**
-     * Rows, an image (number 0), a town of three on day 3 (all of them did it, every letter agrees), acts, a trace,
+     * Rows, an image (number 0) with other people, a town of three on day 3 (all of them did it, every letter agrees), acts, a trace,
      * a fault, part of a text on the tape; status() is 3, that of KIND, which no call with a row can have found.
      */
     static EvePost busy() {
         EvePost x = new EvePost();
         Due.town(x, "person true 6 0;");
         rows(x);
-        Due.town(x, Due.text("cross 5 1, moody 0 2"));
-        x.lots(1, 1);
+        Due.town(x, Due.text("moody 1 2, cross 5 1"));
+        x.lots(0, 1);
         x.image(0);
         Due.town(x, Due.text("true 0 3, moody 1 4, lot 2 5"));
         x.lots(5, 7);

@@ -184,6 +184,17 @@ public final class TextEdgesTest {
         for (String sort : none) {
             e.is("no sort: " + sort, read("person " + sort + " 0 0;"), "7: 1");
         }
+        e.sentence("NAMES: a word with another letter in any of its places is none of those");
+        for (String sort : sorts) {
+            for (int at = 0; at < sort.length(); at++) {
+                String other = sort.substring(0, at) + "x" + sort.substring(at + 1);
+                e.is(other, read("person " + other + " 0 0;"), "7: 1");
+            }
+        }
+        for (int at = 0; at < 6; at++) {
+            String other = "person".substring(0, at) + "x" + "person".substring(at + 1);
+            e.is(other, read(other + " true 0 0;"), "0: 1");
+        }
         e.sentence("FAULT 1: it cannot stand there");
         String[] tokens = {"person", "true", "0", ";"};
         String[] told = {"person", "true", "0", "0", ";"};
