@@ -963,7 +963,10 @@ public final class EvePost {
         }
 
         void become(Town other) {
-            System.arraycopy(other.people, 0, people, 0, people.length);
+            // One by one, as LANGUAGE.md can be read so that arraycopy is for numbers alone.
+            for (int i = 0; i < people.length; i++) {
+                people[i] = other.one(i);
+            }
             System.arraycopy(other.fresh, 0, fresh, 0, fresh.length);
             size = other.size;
             day = other.day;
